@@ -368,6 +368,15 @@ final class PromiseTest {
         Countcote full = filled();
         full.add(0, 7, 1000);
         Check.answers("15: the greatest number is reached", 1, full.frequent(0, 1000000));
+        Check.answers("15: all items", 64, withAllItems().frequent(0, 1));
+    }
+
+    private static Countcote withAllItems() {
+        Countcote x = new Countcote();
+        for (int item = 0; item < 64; item++) {
+            x.add(0, item, 1);
+        }
+        return x;
     }
 
     private static void promise16() {
@@ -381,6 +390,10 @@ final class PromiseTest {
             Check.refuses("16: place " + place, ELEMENT, () -> x.frequentAt(0, 9, place));
             refusesLeast("16: before the place", least -> x.frequentAt(0, least, place));
         }
+        Countcote all = withAllItems();
+        Check.answers("16: the first item", 0, all.frequentAt(0, 1, 0));
+        Check.answers("16: the last item", 63, all.frequentAt(0, 1, 63));
+        Check.refuses("16: behind the last item", ELEMENT, () -> all.frequentAt(0, 1, 64));
         Check.refuses("16: no frequent item", ELEMENT, () -> x.frequentAt(0, 51, 0));
         Check.refuses("16: an empty stream", ELEMENT, () -> x.frequentAt(1, 1, 0));
         refusesStreams("16", stream -> x.frequentAt(stream, 9, 0));
