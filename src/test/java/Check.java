@@ -5,8 +5,15 @@ final class Check {
     }
 
     private static int wrong = 0;
+    private static int compared = 0;
+    private static String about = "";
 
     private Check() {
+    }
+
+    /** Tells what the comparisons that follow are about; it is printed ahead of each wrong one. */
+    static void about(String text) {
+        about = text;
     }
 
     static void answers(String what, long due, long got) {
@@ -27,9 +34,10 @@ final class Check {
     }
 
     static void same(String what, String due, String got) {
+        compared++;
         if (!due.equals(got)) {
             wrong++;
-            System.out.println(what + ": due is " + due + ", but it is " + got);
+            System.out.println(about + what + ": due is " + due + ", but it is " + got);
         }
     }
 
@@ -39,6 +47,10 @@ final class Check {
         } catch (RuntimeException e) {
             return "throws " + e.getClass().getName();
         }
+    }
+
+    static int comparisons() {
+        return compared;
     }
 
     static int wrongOnes() {
