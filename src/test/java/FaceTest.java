@@ -2,56 +2,43 @@ import java.lang.reflect.Constructor;
 import java.lang.reflect.Field;
 import java.lang.reflect.Method;
 import java.lang.reflect.Modifier;
+import java.nio.file.Files;
+import java.nio.file.Path;
 import java.util.ArrayList;
 import java.util.Collections;
 import java.util.List;
+import java.util.regex.Matcher;
+import java.util.regex.Pattern;
 
 /** The face of the class: just what the document lists, and nothing else that others could see. */
 final class FaceTest {
-    private static final String INDEX = " throws java.lang.IndexOutOfBoundsException";
-    private static final String ARGUMENT = INDEX + ",java.lang.IllegalArgumentException";
-    private static final String STATE = ARGUMENT + ",java.lang.IllegalStateException";
-    private static final String ELEMENT = ARGUMENT + ",java.util.NoSuchElementException";
+    private static final Pattern METHOD = Pattern.compile("    public (\\w+ \\w+)\\((.*)\\) throws (.*);");
 
-    private static final String[] FACE = {
-        "int add(int,int,int)" + STATE,
-        "int merge(int,int)" + STATE,
-        "int clear(int)" + INDEX,
-        "int total(int)" + INDEX,
-        "int count(int,int)" + INDEX,
-        "int countOfRange(int,int,int)" + ARGUMENT,
-        "long product(int,int)" + INDEX,
-        "int column(int,int)" + INDEX,
-        "int cell(int,int,int,int)" + INDEX,
-        "int estimate(int,int,int)" + INDEX,
-        "double share(int,int)" + INDEX,
-        "int parts(int,int)" + ARGUMENT,
-        "int estimateOfRange(int,int,int)" + ARGUMENT,
-        "int frequent(int,int)" + ARGUMENT,
-        "int frequentAt(int,int,int)" + ELEMENT,
-        "int itemOfRank(int,int)" + ARGUMENT,
-        "int signedColumn(int,int)" + INDEX,
-        "int sign(int,int)" + INDEX,
-        "int signedCell(int,int,int)" + INDEX,
-        "int signedEstimate(int,int)" + INDEX,
-        "long signedProduct(int,int)" + INDEX,
-        "int counters(int)" + INDEX,
-        "int counterItem(int,int)" + INDEX,
-        "int counterOf(int,int)" + INDEX,
-        "int taken(int)" + INDEX,
-    };
-
-    public static void main(String[] args) {
+    public static void main(String[] args) throws Exception {
+        Path root = Path.of(args.length > 0 ? args[0] : ".");
         Check.answers("the modifiers of the class", Modifier.PUBLIC | Modifier.FINAL, Countcote.class.getModifiers());
-        checkMethods();
+        checkMethods(faceOf(Files.readString(root.resolve("../shared/DOC.md"))));
         checkFields();
         checkConstructors();
         checkClassesInside();
         Check.end("FaceTest");
     }
 
-    private static void checkMethods() {
-        List<String> due = new ArrayList<>(List.of(FACE));
+    /** The methods of the document's face, each in the way in which reflection tells it. */
+    private static List<String> faceOf(String document) {
+        List<String> face = new ArrayList<>();
+        for (String line : document.split("\n")) {
+            Matcher method = METHOD.matcher(line);
+            if (method.matches()) {
+                String types = method.group(2).replaceAll(" \\w+(, |$)", ",").replaceAll(",$", "");
+                String thrown = method.group(3).replaceAll("(^|, )(?!java)", ",java.lang.").replace(", ", ",");
+                face.add(method.group(1) + "(" + types + ") throws " + thrown.substring(1));
+            }
+        }
+        return face;
+    }
+
+    private static void checkMethods(List<String> due) {
         List<String> found = new ArrayList<>();
         List<String> names = new ArrayList<>();
         for (Method method : Countcote.class.getDeclaredMethods()) {
